@@ -22,6 +22,7 @@ public final class CoatLine {
   private static final int WARM = 40;
   private static final int HOT = 60;
   private static final int TOO_HOT = 80;
+  private static final int ABOVE_ALL = 2147483647;
   private static final char UNMARKED = '-';
   private static final char NOT_READY = '-';
   private static final char QUIET = '-';
@@ -744,7 +745,7 @@ public final class CoatLine {
   // Cells that are least apart stand in a row here, and the first such row holds least together.
   private int startOfLeastSpread(int count) {
     int best = 0;
-    int leastApart = Integer.MAX_VALUE;
+    int leastApart = ABOVE_ALL;
     for (int i = 0; i + count <= candidates.size(); i++) {
       int apart = candidates.get(i + count - 1).hold - candidates.get(i).hold;
       if (apart < leastApart) {
@@ -808,7 +809,7 @@ public final class CoatLine {
   }
 
   private static int leastHold(ArrayList<Cell> members) {
-    int hold = Integer.MAX_VALUE;
+    int hold = ABOVE_ALL;
     for (int i = 0; i < members.size(); i++) {
       hold = Math.min(hold, members.get(i).hold);
     }
@@ -816,7 +817,7 @@ public final class CoatLine {
   }
 
   private static int leastContent(ArrayList<Cell> members) {
-    int content = Integer.MAX_VALUE;
+    int content = ABOVE_ALL;
     for (int i = 0; i < members.size(); i++) {
       content = Math.min(content, members.get(i).content);
     }

@@ -13,6 +13,7 @@ final class ChargesTest {
     firstHourNeverEndsAStep();
     stepsFollowOneAnother();
     throughputWears();
+    heatIsCut();
     coldPlates();
     coldOutDoesNotPlate();
     holdIsOneAtLeast();
@@ -91,6 +92,12 @@ final class ChargesTest {
     x.pass(7);
     x.form(1, 0, 0);
     cell("wet by 59", x, 1, "hb", 250 - 25 - 2 - 2, 250);
+    CoatLine z = Works.wound(50, 4);
+    z.protocol(0, 1);
+    z.fill(0, 3);
+    z.pass(18);
+    z.form(0, 0, 0);
+    cell("wet by 81", z, 0, "hb", 200 - 20 - 0 - 2, 200);
     CoatLine y = Works.slit(11, 1);
     y.dew(0);
     y.wind(0, 1, 9);
@@ -152,6 +159,21 @@ final class ChargesTest {
     y.protocol(11, 9);
     y.form(0, 0, 0);
     cell("at 99", y, 0, "hiru", 178, 99, 12, 99);
+    CoatLine z = Works.wet(50, 9);
+    z.protocol(11, 10);
+    z.step(0, 30, 3);
+    z.form(0, 0, 0);
+    cell("at 110, and at 200", z, 0, "hiru", 401, 200, 14, 200);
+  }
+
+  private static void heatIsCut() {
+    CoatLine x = Works.slit(50, 1);
+    x.dew(-30);
+    x.wind(0, 1, 4);
+    x.fill(0, 4);
+    x.protocol(26, 1);
+    x.form(0, 0, 0);
+    cell("8788 by 200", x, 0, "rt", 13, 43);
   }
 
   private static void coldPlates() {
@@ -191,7 +213,8 @@ final class ChargesTest {
     x.step(0, 30, 20);
     x.room(-20);
     x.form(0, 0, 0);
-    cell("plated in six hours", x, 0, "bhi", 20, 1, 1);
+    // It holds 13 then 10, which brings what is in it back to 10, and nothing goes in again.
+    cell("plated in six hours", x, 0, "bhiu", 20, 1, 1, 13);
     check.yes("sound", x.isSound());
   }
 
@@ -208,6 +231,10 @@ final class ChargesTest {
     x.pass(1);
     check.is("wet by 50", x.form(0, 0, 0), 11);
     check.refuses("wet by 35", Works.UNSUPPORTED, () -> x.form(1, 0, 3));
+    x.pass(7);
+    check.refuses("wet by 49", Works.UNSUPPORTED, () -> x.form(1, 0, 3));
+    x.pass(1);
+    check.is("wet by 51", x.form(1, 0, 3), 19);
   }
 
   private static void formRefused() {
@@ -396,11 +423,15 @@ final class ChargesTest {
     }
     check.refuses("cell 1", Works.INDEX, () -> x.sort(1));
     check.refuses("cell -1", Works.INDEX, () -> x.sort(-1));
-    CoatLine y = Works.ready(10, 8, 15);
-    check.isLetter("70 by 100 and 60", y.sort(0), 'b');
-    check.isLetter("133 by 100 and 60", y.sort(1), 'a');
+    int[][] bases = {{90, 14, 9, 100}, {100, 14, 8, 99}, {100, 17, 4, 60}, {99, 17, 4, 59}};
+    char[] sorts = {'a', 'b', 'b', 'c'};
+    for (int i = 0; i < sorts.length; i++) {
+      CoatLine y = oneReady(bases[i][0], bases[i][1], bases[i][2]);
+      check.is("hold of case " + i, y.cellAt(0, 'h'), bases[i][3]);
+      check.isLetter("by 100 and 60, case " + i, y.sort(0), sorts[i]);
+    }
     CoatLine z = Works.slit(50, 1);
-    z.dew(0);
+    z.dew(-10);
     z.wind(0, 1, 4);
     z.dew(-20);
     z.wind(0, 1, 4);
@@ -411,8 +442,26 @@ final class ChargesTest {
     z.form(0, 0, 0);
     z.form(1, 0, 1);
     z.pass(1);
-    check.isLetter("resistance 16 by a limit of 14", z.sort(0), 'b');
+    check.isLetter("resistance 15 by a limit of 14", z.sort(0), 'b');
     check.isLetter("resistance 14 by a limit of 14", z.sort(1), 'a');
+  }
+
+  /** A ready cell whose 'p' is of this strength and weight, and whose 'n' is the greater. */
+  private static CoatLine oneReady(int strength, int weight, int length) {
+    CoatLine x = new CoatLine();
+    x.lot('p', strength, 999);
+    x.lot('n', 150, 999);
+    x.coat(0, 50, weight);
+    x.coat(1, 50, weight);
+    x.slit(0, 1);
+    x.slit(1, 1);
+    x.wind(0, 1, length);
+    x.fill(0, 4);
+    x.pass(20);
+    x.protocol(0, 1);
+    x.form(0, 0, 0);
+    x.pass(1);
+    return x;
   }
 
   private static void sortX() {
@@ -434,5 +483,9 @@ final class ChargesTest {
     x.clear(0);
     check.isLetter("ever covered", x.sort(1), 'x');
     check.isLetter("never covered", x.sort(2), 'a');
+    CoatLine y = Works.ready(50, 4);
+    y.doubt(0, 0, 0);
+    y.clear(0);
+    check.isLetter("the first one, ever covered", y.sort(0), 'x');
   }
 }

@@ -43,7 +43,7 @@ final class Check {
     }
   }
 
-  /** The call must throw just this kind, not one that stands above or below it. */
+  /** The call must throw just this kind, and the class itself must, not the machine for it. */
   void refuses(String what, Class<? extends RuntimeException> kind, Runnable call) {
     seen++;
     try {
@@ -51,10 +51,18 @@ final class Check {
     } catch (RuntimeException thrown) {
       if (thrown.getClass() != kind) {
         tell(what + " threw " + thrown.getClass().getName() + ", due is " + kind.getName());
+      } else if (!isThrownByTheClass(thrown)) {
+        tell(what + " let the machine throw");
       }
       return;
     }
     tell(what + " threw nothing, due is " + kind.getName());
+  }
+
+  /** An exception of the library's own, such as a list's, begins in the library. */
+  static boolean isThrownByTheClass(Throwable thrown) {
+    StackTraceElement[] calls = thrown.getStackTrace();
+    return calls.length > 0 && calls[0].getClassName().equals("CoatLine");
   }
 
   void end() {

@@ -227,6 +227,9 @@ final class ModulesTest {
     check.is("at 261", x.spread(0), 1);
     x.pass(1);
     check.is("at 262", x.spread(0), 0);
+    CoatLine y = anySort('a', 9, 4, 8);
+    y.module(3, 'a');
+    check.is("the first one the greatest, the second one the least", y.spread(0), 45);
   }
 
   private static CoatLine withModules(int modules) {

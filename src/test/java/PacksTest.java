@@ -99,10 +99,13 @@ final class PacksTest {
         x.drive(0, second, 1);
         int heat = x.cellAt(0, 't');
         seen[heat]++;
-        int hours = x.drive(0, 0, 1);
+        int content = x.cellAt(0, 'i');
+        int hours = x.drive(0, 10, 1);
         char letter = heat > 80 ? 'o' : heat > 60 ? 'l' : heat > 40 ? 'w' : '-';
         check.isLetter("stage by " + heat, x.stage(0), letter);
         check.is("hours by " + heat, hours, heat > 80 ? 0 : 1);
+        int sent = heat > 80 ? 0 : heat > 60 ? 5 : 10;
+        check.is("sent by " + heat, x.cellAt(0, 'i') - content, sent);
       }
     }
     for (int heat : new int[] {40, 41, 60, 61, 80, 81}) {
@@ -240,6 +243,16 @@ final class PacksTest {
     y.drive(0, 0, 1);
     check.isLetter("stage by the hottest", y.stage(0), 'w');
     check.is("heat of the hottest", y.rest(0, 1), 27);
+    CoatLine z = Works.wet(50, 8, 8);
+    z.protocol(26, 1);
+    z.protocol(0, 1);
+    z.form(0, 0, 0);
+    z.form(1, 1, 1);
+    z.pass(1);
+    z.bounds(0, 0, 99);
+    z.module(2, 'a');
+    z.pack(0, -1);
+    check.is("the first one the hottest", z.rest(0, 1), 30);
   }
 
   private static void drivePlates() {

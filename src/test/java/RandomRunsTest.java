@@ -101,6 +101,7 @@ final class RandomRunsTest {
       Class<?> kind = refused.getCause().getClass();
       boolean isDue = java.util.Arrays.asList(method.getExceptionTypes()).contains(kind);
       check.yes(method.getName() + " may throw " + kind, isDue);
+      check.yes(method.getName() + " throws it", Check.isThrownByTheClass(refused.getCause()));
       return 1;
     }
     ANSWERED.merge(method.getName(), 1, Integer::sum);
