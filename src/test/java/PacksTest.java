@@ -188,6 +188,9 @@ final class PacksTest {
     check.is("empty at first", x.drive(0, -1, 5), 0);
     check.isLetter("empty", x.stage(0), 'e');
     check.no("for that drive alone", x.on(0));
+    check.is("no heat", x.rest(0, 1), 0);
+    check.is("empty is enough without a current", x.drive(0, 0, 3), 3);
+    check.isLetter("an hour without a letter", x.stage(0), '-');
     check.is("in it goes", x.drive(0, 10, 2), 2);
     check.isLetter("an hour without a letter", x.stage(0), '-');
     check.is("out it goes", x.drive(0, -8, 40), 3);
