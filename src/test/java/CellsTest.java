@@ -26,8 +26,8 @@ final class CellsTest {
     CoatLine x = new CoatLine();
     check.is("gap 0", x.gap(0), 4);
     check.is("gap 9", x.gap(9), 0);
-    check.refuses("gap -1", Works.ARGUMENT, () -> x.gap(-1));
-    check.refuses("gap 10", Works.ARGUMENT, () -> x.gap(10));
+    check.refuses("gap -1", Works.ARGUMENT, x, () -> x.gap(-1));
+    check.refuses("gap 10", Works.ARGUMENT, x, () -> x.gap(10));
     check.is("as it was", x.gap(1), 9);
   }
 
@@ -35,8 +35,8 @@ final class CellsTest {
     CoatLine x = new CoatLine();
     check.is("dew -60", x.dew(-60), -40);
     check.is("dew 0", x.dew(0), -60);
-    check.refuses("dew -61", Works.ARGUMENT, () -> x.dew(-61));
-    check.refuses("dew 1", Works.ARGUMENT, () -> x.dew(1));
+    check.refuses("dew -61", Works.ARGUMENT, x, () -> x.dew(-61));
+    check.refuses("dew 1", Works.ARGUMENT, x, () -> x.dew(1));
     check.is("as it was", x.dew(-10), 0);
   }
 
@@ -44,22 +44,22 @@ final class CellsTest {
     CoatLine x = new CoatLine();
     check.is("room -20", x.room(-20), 20);
     check.is("room 40", x.room(40), -20);
-    check.refuses("room -21", Works.ARGUMENT, () -> x.room(-21));
-    check.refuses("room 41", Works.ARGUMENT, () -> x.room(41));
+    check.refuses("room -21", Works.ARGUMENT, x, () -> x.room(-21));
+    check.refuses("room 41", Works.ARGUMENT, x, () -> x.room(41));
     check.is("as it was", x.room(0), 40);
   }
 
   private static void windRefused() {
     CoatLine x = Works.slit(50, 1);
-    check.refuses("first -1", Works.INDEX, () -> x.wind(-1, 1, 4));
-    check.refuses("first 2", Works.INDEX, () -> x.wind(2, 1, 1));
-    check.refuses("second -1", Works.INDEX, () -> x.wind(0, -1, 4));
-    check.refuses("second 2", Works.INDEX, () -> x.wind(0, 2, 1));
-    check.refuses("length 1", Works.ARGUMENT, () -> x.wind(0, 1, 1));
-    check.refuses("length 41", Works.ARGUMENT, () -> x.wind(0, 1, 41));
-    check.refuses("both changed", Works.ARGUMENT, () -> x.wind(1, 0, 4));
-    check.refuses("twice 'p'", Works.ARGUMENT, () -> x.wind(0, 0, 4));
-    check.refuses("twice 'n'", Works.ARGUMENT, () -> x.wind(1, 1, 4));
+    check.refuses("first -1", Works.INDEX, x, () -> x.wind(-1, 1, 4));
+    check.refuses("first 2", Works.INDEX, x, () -> x.wind(2, 1, 1));
+    check.refuses("second -1", Works.INDEX, x, () -> x.wind(0, -1, 4));
+    check.refuses("second 2", Works.INDEX, x, () -> x.wind(0, 2, 1));
+    check.refuses("length 1", Works.ARGUMENT, x, () -> x.wind(0, 1, 1));
+    check.refuses("length 41", Works.ARGUMENT, x, () -> x.wind(0, 1, 41));
+    check.refuses("both changed", Works.ARGUMENT, x, () -> x.wind(1, 0, 4));
+    check.refuses("twice 'p'", Works.ARGUMENT, x, () -> x.wind(0, 0, 4));
+    check.refuses("twice 'n'", Works.ARGUMENT, x, () -> x.wind(1, 1, 4));
     check.is("nothing taken of 'p'", x.next(0), 0);
     check.is("nothing taken of 'n'", x.next(1), 0);
     check.is("length 2", x.wind(0, 1, 2), 0);
@@ -77,18 +77,18 @@ final class CellsTest {
     x.mark(0, 10, 'b');
     x.slit(0, 1);
     x.slit(1, 1);
-    check.refuses("11 of 'p'", Works.UNSUPPORTED, () -> x.wind(0, 1, 11));
-    check.refuses("as of the other kind", Works.ARGUMENT, () -> x.wind(1, 0, 11));
+    check.refuses("11 of 'p'", Works.UNSUPPORTED, x, () -> x.wind(0, 1, 11));
+    check.refuses("as of the other kind", Works.ARGUMENT, x, () -> x.wind(1, 0, 11));
     check.is("nothing taken of 'n'", x.next(1), 0);
     check.is("10 of 'p'", x.wind(0, 1, 10), 0);
     check.is("11 of 'n'", x.next(1), 11);
-    check.refuses("10 of 'n' are not there", Works.UNSUPPORTED, () -> x.wind(0, 1, 9));
+    check.refuses("10 of 'n' are not there", Works.UNSUPPORTED, x, () -> x.wind(0, 1, 9));
     check.is("nothing taken of 'p'", x.next(0), 10);
     check.is("8 and 9", x.wind(0, 1, 8), 1);
     check.is("behind the mark", x.traced(1, true, 0), 11);
     check.is("to the end", x.next(1), 20);
     check.is("passed over", x.next(0), 19);
-    check.refuses("none", Works.UNSUPPORTED, () -> x.wind(0, 1, 2));
+    check.refuses("none", Works.UNSUPPORTED, x, () -> x.wind(0, 1, 2));
   }
 
   private static void windAtMostTwentyFour() {
@@ -96,14 +96,14 @@ final class CellsTest {
     for (int number = 0; number < 24; number++) {
       check.is("cell", x.wind(0, 1, 2), number);
     }
-    check.refuses("another", Works.STATE, () -> x.wind(0, 1, 2));
-    check.refuses("another, out of range", Works.ARGUMENT, () -> x.wind(0, 1, 1));
+    check.refuses("another", Works.STATE, x, () -> x.wind(0, 1, 2));
+    check.refuses("another, out of range", Works.ARGUMENT, x, () -> x.wind(0, 1, 1));
     check.is("nothing taken of 'p'", x.next(0), 48);
     check.is("nothing taken of 'n'", x.next(1), 72);
     x.coat(0, 10, 50);
     x.slit(2, 1);
-    check.refuses("another, no stretch", Works.UNSUPPORTED, () -> x.wind(2, 1, 11));
-    check.refuses("no cell 24", Works.INDEX, () -> x.isShort(24));
+    check.refuses("another, no stretch", Works.UNSUPPORTED, x, () -> x.wind(2, 1, 11));
+    check.refuses("no cell 24", Works.INDEX, x, () -> x.isShort(24));
   }
 
   private static void windPassesOverMarks() {
@@ -188,12 +188,12 @@ final class CellsTest {
     check.is("base", x.cellAt(0, 'b'), 200);
     check.is("damp", x.cellAt(0, 'd'), 2);
     check.no("plated", x.isPlated(0));
-    check.refuses("no such thing", Works.ARGUMENT, () -> x.cellAt(0, 'z'));
-    check.refuses("H", Works.ARGUMENT, () -> x.cellAt(0, 'H'));
-    check.refuses("no such cell", Works.INDEX, () -> x.cellAt(1, 'z'));
-    check.refuses("cell -1", Works.INDEX, () -> x.cellAt(-1, 'h'));
-    check.refuses("isPlated 1", Works.INDEX, () -> x.isPlated(1));
-    check.refuses("isPlated -1", Works.INDEX, () -> x.isPlated(-1));
+    check.refuses("no such thing", Works.ARGUMENT, x, () -> x.cellAt(0, 'z'));
+    check.refuses("H", Works.ARGUMENT, x, () -> x.cellAt(0, 'H'));
+    check.refuses("no such cell", Works.INDEX, x, () -> x.cellAt(1, 'z'));
+    check.refuses("cell -1", Works.INDEX, x, () -> x.cellAt(-1, 'h'));
+    check.refuses("isPlated 1", Works.INDEX, x, () -> x.isPlated(1));
+    check.refuses("isPlated -1", Works.INDEX, x, () -> x.isPlated(-1));
   }
 
   private static void shortByTheGap() {
@@ -216,10 +216,10 @@ final class CellsTest {
     check.no("that stays too", x.isShort(1));
     x.wind(0, 3, 2);
     check.yes("3 above 0", x.isShort(2));
-    check.refuses("a short one is not filled", Works.UNSUPPORTED, () -> x.fill(0, 1));
+    check.refuses("a short one is not filled", Works.UNSUPPORTED, x, () -> x.fill(0, 1));
     check.is("one that is not is", x.fill(1, 1), 15);
-    check.refuses("isShort 3", Works.INDEX, () -> x.isShort(3));
-    check.refuses("isShort -1", Works.INDEX, () -> x.isShort(-1));
+    check.refuses("isShort 3", Works.INDEX, x, () -> x.isShort(3));
+    check.refuses("isShort -1", Works.INDEX, x, () -> x.isShort(-1));
   }
 
   private static void tracedMetres() {
@@ -231,13 +231,13 @@ final class CellsTest {
     check.is("n 4 of 0", x.traced(0, false, 4), 1004);
     check.is("p 0 of 1", x.traced(1, true, 0), 4);
     check.is("n 5 of 1", x.traced(1, false, 5), 1005);
-    check.refuses("p 4 of 0", Works.ELEMENT, () -> x.traced(0, true, 4));
-    check.refuses("n 5 of 0", Works.ELEMENT, () -> x.traced(0, false, 5));
-    check.refuses("p -1", Works.ELEMENT, () -> x.traced(0, true, -1));
-    check.refuses("n -1", Works.ELEMENT, () -> x.traced(0, false, -1));
-    check.refuses("p of the most", Works.ELEMENT, () -> x.traced(0, true, Integer.MAX_VALUE));
-    check.refuses("cell 2", Works.INDEX, () -> x.traced(2, true, 9));
-    check.refuses("cell -1", Works.INDEX, () -> x.traced(-1, true, 0));
+    check.refuses("p 4 of 0", Works.ELEMENT, x, () -> x.traced(0, true, 4));
+    check.refuses("n 5 of 0", Works.ELEMENT, x, () -> x.traced(0, false, 5));
+    check.refuses("p -1", Works.ELEMENT, x, () -> x.traced(0, true, -1));
+    check.refuses("n -1", Works.ELEMENT, x, () -> x.traced(0, false, -1));
+    check.refuses("p of the most", Works.ELEMENT, x, () -> x.traced(0, true, Integer.MAX_VALUE));
+    check.refuses("cell 2", Works.INDEX, x, () -> x.traced(2, true, 9));
+    check.refuses("cell -1", Works.INDEX, x, () -> x.traced(-1, true, 0));
   }
 
   private static void fillWets() {
@@ -263,17 +263,17 @@ final class CellsTest {
 
   private static void fillRefused() {
     CoatLine x = Works.wound(50, 4, 4);
-    check.refuses("cell 2", Works.INDEX, () -> x.fill(2, 0));
-    check.refuses("cell -1", Works.INDEX, () -> x.fill(-1, 1));
-    check.refuses("0 steps", Works.ARGUMENT, () -> x.fill(0, 0));
-    check.refuses("5 steps", Works.ARGUMENT, () -> x.fill(0, 5));
+    check.refuses("cell 2", Works.INDEX, x, () -> x.fill(2, 0));
+    check.refuses("cell -1", Works.INDEX, x, () -> x.fill(-1, 1));
+    check.refuses("0 steps", Works.ARGUMENT, x, () -> x.fill(0, 0));
+    check.refuses("5 steps", Works.ARGUMENT, x, () -> x.fill(0, 5));
     check.is("not wet by them", x.cellAt(0, 'w'), 0);
     check.is("filled", x.fill(0, 1), 15);
-    check.refuses("filled again", Works.UNSUPPORTED, () -> x.fill(0, 4));
-    check.refuses("filled, out of range", Works.ARGUMENT, () -> x.fill(0, 5));
+    check.refuses("filled again", Works.UNSUPPORTED, x, () -> x.fill(0, 4));
+    check.refuses("filled, out of range", Works.ARGUMENT, x, () -> x.fill(0, 5));
     check.is("as it was", x.cellAt(0, 'w'), 15);
     x.doubt(0, 4, 4);
-    check.refuses("covered", Works.UNSUPPORTED, () -> x.fill(1, 1));
+    check.refuses("covered", Works.UNSUPPORTED, x, () -> x.fill(1, 1));
     x.clear(0);
     check.is("no longer covered", x.fill(1, 1), 15);
   }
@@ -287,18 +287,18 @@ final class CellsTest {
 
   private static void passRefused() {
     CoatLine x = new CoatLine();
-    check.refuses("0", Works.ARGUMENT, () -> x.pass(0));
-    check.refuses("501", Works.ARGUMENT, () -> x.pass(501));
-    check.refuses("-1", Works.ARGUMENT, () -> x.pass(-1));
+    check.refuses("0", Works.ARGUMENT, x, () -> x.pass(0));
+    check.refuses("501", Works.ARGUMENT, x, () -> x.pass(501));
+    check.refuses("-1", Works.ARGUMENT, x, () -> x.pass(-1));
     check.is("none went by", x.time(), 0);
     for (int i = 0; i < 19; i++) {
       x.pass(500);
     }
-    check.refuses("to 10000", Works.STATE, () -> x.pass(500));
-    check.refuses("501 then", Works.ARGUMENT, () -> x.pass(501));
+    check.refuses("to 10000", Works.STATE, x, () -> x.pass(500));
+    check.refuses("501 then", Works.ARGUMENT, x, () -> x.pass(501));
     check.is("as it was", x.time(), 9500);
     check.is("to 9999", x.pass(499), 9999);
-    check.refuses("1 more", Works.STATE, () -> x.pass(1));
+    check.refuses("1 more", Works.STATE, x, () -> x.pass(1));
     check.is("the last hour", x.time(), 9999);
   }
 }

@@ -45,16 +45,16 @@ final class ChargesTest {
     check.is("most", x.protocol(30, 20), 1);
     check.is("third", x.protocol(0, 5), 2);
     check.is("fourth", x.protocol(1, 5), 3);
-    check.refuses("fifth", Works.STATE, () -> x.protocol(1, 5));
-    check.refuses("fifth, out of range", Works.ARGUMENT, () -> x.protocol(31, 5));
+    check.refuses("fifth", Works.STATE, x, () -> x.protocol(1, 5));
+    check.refuses("fifth, out of range", Works.ARGUMENT, x, () -> x.protocol(31, 5));
   }
 
   private static void protocolsRefused() {
     CoatLine x = new CoatLine();
-    check.refuses("current 31", Works.ARGUMENT, () -> x.protocol(31, 5));
-    check.refuses("current -31", Works.ARGUMENT, () -> x.protocol(-31, 5));
-    check.refuses("0 hours", Works.ARGUMENT, () -> x.protocol(5, 0));
-    check.refuses("21 hours", Works.ARGUMENT, () -> x.protocol(5, 21));
+    check.refuses("current 31", Works.ARGUMENT, x, () -> x.protocol(31, 5));
+    check.refuses("current -31", Works.ARGUMENT, x, () -> x.protocol(-31, 5));
+    check.refuses("0 hours", Works.ARGUMENT, x, () -> x.protocol(5, 0));
+    check.refuses("21 hours", Works.ARGUMENT, x, () -> x.protocol(5, 21));
     check.is("none was added", x.protocol(5, 5), 0);
   }
 
@@ -65,20 +65,20 @@ final class ChargesTest {
     for (int steps = 2; steps <= 6; steps++) {
       check.is("step", x.step(0, 30, 20), steps);
     }
-    check.refuses("seventh", Works.STATE, () -> x.step(0, 1, 1));
-    check.refuses("seventh, out of range", Works.ARGUMENT, () -> x.step(0, 1, 21));
+    check.refuses("seventh", Works.STATE, x, () -> x.step(0, 1, 1));
+    check.refuses("seventh, out of range", Works.ARGUMENT, x, () -> x.step(0, 1, 21));
     check.is("of the other one", x.step(1, -30, 1), 2);
   }
 
   private static void stepsRefused() {
     CoatLine x = new CoatLine();
     x.protocol(1, 1);
-    check.refuses("protocol 1", Works.INDEX, () -> x.step(1, 31, 1));
-    check.refuses("protocol -1", Works.INDEX, () -> x.step(-1, 1, 1));
-    check.refuses("current 31", Works.ARGUMENT, () -> x.step(0, 31, 1));
-    check.refuses("current -31", Works.ARGUMENT, () -> x.step(0, -31, 1));
-    check.refuses("0 hours", Works.ARGUMENT, () -> x.step(0, 1, 0));
-    check.refuses("21 hours", Works.ARGUMENT, () -> x.step(0, 1, 21));
+    check.refuses("protocol 1", Works.INDEX, x, () -> x.step(1, 31, 1));
+    check.refuses("protocol -1", Works.INDEX, x, () -> x.step(-1, 1, 1));
+    check.refuses("current 31", Works.ARGUMENT, x, () -> x.step(0, 31, 1));
+    check.refuses("current -31", Works.ARGUMENT, x, () -> x.step(0, -31, 1));
+    check.refuses("0 hours", Works.ARGUMENT, x, () -> x.step(0, 1, 0));
+    check.refuses("21 hours", Works.ARGUMENT, x, () -> x.step(0, 1, 21));
     check.is("none was added", x.step(0, 1, 1), 2);
   }
 
@@ -221,18 +221,18 @@ final class ChargesTest {
   private static void formNeedsWetness() {
     CoatLine x = Works.wound(50, 4, 4);
     x.protocol(0, 1);
-    check.refuses("not filled", Works.UNSUPPORTED, () -> x.form(0, 0, 0));
+    check.refuses("not filled", Works.UNSUPPORTED, x, () -> x.form(0, 0, 0));
     x.fill(0, 2);
     x.fill(1, 1);
     x.pass(9);
-    check.refuses("wet by 48", Works.UNSUPPORTED, () -> x.form(0, 0, 0));
+    check.refuses("wet by 48", Works.UNSUPPORTED, x, () -> x.form(0, 0, 0));
     check.is("the channel is free", x.freeAt(0), 9);
     check.is("nothing was formed", x.cellAt(0, 'h'), 200);
     x.pass(1);
     check.is("wet by 50", x.form(0, 0, 0), 11);
-    check.refuses("wet by 35", Works.UNSUPPORTED, () -> x.form(1, 0, 3));
+    check.refuses("wet by 35", Works.UNSUPPORTED, x, () -> x.form(1, 0, 3));
     x.pass(7);
-    check.refuses("wet by 49", Works.UNSUPPORTED, () -> x.form(1, 0, 3));
+    check.refuses("wet by 49", Works.UNSUPPORTED, x, () -> x.form(1, 0, 3));
     x.pass(1);
     check.is("wet by 51", x.form(1, 0, 3), 19);
   }
@@ -240,18 +240,18 @@ final class ChargesTest {
   private static void formRefused() {
     CoatLine x = Works.wet(50, 4, 4);
     x.protocol(10, 5);
-    check.refuses("cell 2", Works.INDEX, () -> x.form(2, 0, 0));
-    check.refuses("cell -1", Works.INDEX, () -> x.form(-1, 0, 0));
-    check.refuses("protocol 1", Works.INDEX, () -> x.form(0, 1, 0));
-    check.refuses("protocol -1", Works.INDEX, () -> x.form(0, -1, 0));
-    check.refuses("channel 4", Works.INDEX, () -> x.form(0, 0, 4));
-    check.refuses("channel -1", Works.INDEX, () -> x.form(0, 0, -1));
+    check.refuses("cell 2", Works.INDEX, x, () -> x.form(2, 0, 0));
+    check.refuses("cell -1", Works.INDEX, x, () -> x.form(-1, 0, 0));
+    check.refuses("protocol 1", Works.INDEX, x, () -> x.form(0, 1, 0));
+    check.refuses("protocol -1", Works.INDEX, x, () -> x.form(0, -1, 0));
+    check.refuses("channel 4", Works.INDEX, x, () -> x.form(0, 0, 4));
+    check.refuses("channel -1", Works.INDEX, x, () -> x.form(0, 0, -1));
     x.form(0, 0, 3);
-    check.refuses("formed", Works.UNSUPPORTED, () -> x.form(0, 0, 0));
-    check.refuses("formed, no such channel", Works.INDEX, () -> x.form(0, 0, 4));
+    check.refuses("formed", Works.UNSUPPORTED, x, () -> x.form(0, 0, 0));
+    check.refuses("formed, no such channel", Works.INDEX, x, () -> x.form(0, 0, 4));
     cell("as it was", x, 0, "hi", 178, 50);
     x.doubtAll(true, 0);
-    check.refuses("covered", Works.UNSUPPORTED, () -> x.form(1, 0, 0));
+    check.refuses("covered", Works.UNSUPPORTED, x, () -> x.form(1, 0, 0));
     x.clear(0);
     check.is("no longer covered", x.form(1, 0, 0), 25);
   }
@@ -273,8 +273,8 @@ final class ChargesTest {
     check.isLetter("ready as its hour comes", x.sort(1), 'a');
     x.pass(10);
     check.is("from now on", x.form(3, 0, 1), 45);
-    check.refuses("channel 4", Works.INDEX, () -> x.freeAt(4));
-    check.refuses("channel -1", Works.INDEX, () -> x.freeAt(-1));
+    check.refuses("channel 4", Works.INDEX, x, () -> x.freeAt(4));
+    check.refuses("channel -1", Works.INDEX, x, () -> x.freeAt(-1));
   }
 
   private static void longerProtocolLater() {
@@ -402,11 +402,11 @@ final class ChargesTest {
   private static void boundsRefused() {
     CoatLine x = new CoatLine();
     x.bounds(50, 40, 30);
-    check.refuses("first -1", Works.ARGUMENT, () -> x.bounds(-1, -2, 5));
-    check.refuses("second -1", Works.ARGUMENT, () -> x.bounds(5, -1, 5));
-    check.refuses("second above", Works.ARGUMENT, () -> x.bounds(5, 6, 5));
-    check.refuses("limit -1", Works.ARGUMENT, () -> x.bounds(5, 5, -1));
-    check.refuses("limit 100", Works.ARGUMENT, () -> x.bounds(5, 5, 100));
+    check.refuses("first -1", Works.ARGUMENT, x, () -> x.bounds(-1, -2, 5));
+    check.refuses("second -1", Works.ARGUMENT, x, () -> x.bounds(5, -1, 5));
+    check.refuses("second above", Works.ARGUMENT, x, () -> x.bounds(5, 6, 5));
+    check.refuses("limit -1", Works.ARGUMENT, x, () -> x.bounds(5, 5, -1));
+    check.refuses("limit 100", Works.ARGUMENT, x, () -> x.bounds(5, 5, 100));
     check.is("as it was", x.bounds(9, 9, 9), 50);
   }
 
@@ -421,8 +421,8 @@ final class ChargesTest {
       String what = "bounds " + one[0] + " " + one[1] + " " + one[2];
       check.isLetter(what, x.sort(0), (Character) one[3]);
     }
-    check.refuses("cell 1", Works.INDEX, () -> x.sort(1));
-    check.refuses("cell -1", Works.INDEX, () -> x.sort(-1));
+    check.refuses("cell 1", Works.INDEX, x, () -> x.sort(1));
+    check.refuses("cell -1", Works.INDEX, x, () -> x.sort(-1));
     int[][] bases = {{90, 14, 9, 100}, {100, 14, 8, 99}, {100, 17, 4, 60}, {99, 17, 4, 59}};
     char[] sorts = {'a', 'b', 'b', 'c'};
     for (int i = 0; i < sorts.length; i++) {

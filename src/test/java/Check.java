@@ -43,9 +43,13 @@ final class Check {
     }
   }
 
-  /** The call must throw just this kind, and the class itself must, not the machine for it. */
-  void refuses(String what, Class<? extends RuntimeException> kind, Runnable call) {
+  /**
+   * The call must throw just this kind, and the class itself must, not the machine for it; and it
+   * must leave all that the object holds as it was.
+   */
+  void refuses(String what, Class<? extends RuntimeException> kind, CoatLine x, Runnable call) {
     seen++;
+    String before = Inside.of(x);
     try {
       call.run();
     } catch (RuntimeException thrown) {
@@ -53,6 +57,8 @@ final class Check {
         tell(what + " threw " + thrown.getClass().getName() + ", due is " + kind.getName());
       } else if (!isThrownByTheClass(thrown)) {
         tell(what + " let the machine throw");
+      } else if (!Inside.of(x).equals(before)) {
+        tell(what + " was refused and changed something");
       }
       return;
     }

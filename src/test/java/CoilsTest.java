@@ -23,13 +23,13 @@ final class CoilsTest {
   private static void coatRefused() {
     CoatLine x = new CoatLine();
     x.lot('p', 100, 999);
-    check.refuses("no lot", Works.INDEX, () -> x.coat(1, 9, 9));
-    check.refuses("lot -1", Works.INDEX, () -> x.coat(-1, 20, 20));
-    check.refuses("9 metres", Works.ARGUMENT, () -> x.coat(0, 9, 20));
-    check.refuses("201 metres", Works.ARGUMENT, () -> x.coat(0, 201, 20));
-    check.refuses("weight 9", Works.ARGUMENT, () -> x.coat(0, 20, 9));
-    check.refuses("weight 91", Works.ARGUMENT, () -> x.coat(0, 20, 91));
-    check.refuses("no coil", Works.INDEX, () -> x.weight(0, 0));
+    check.refuses("no lot", Works.INDEX, x, () -> x.coat(1, 9, 9));
+    check.refuses("lot -1", Works.INDEX, x, () -> x.coat(-1, 20, 20));
+    check.refuses("9 metres", Works.ARGUMENT, x, () -> x.coat(0, 9, 20));
+    check.refuses("201 metres", Works.ARGUMENT, x, () -> x.coat(0, 201, 20));
+    check.refuses("weight 9", Works.ARGUMENT, x, () -> x.coat(0, 20, 9));
+    check.refuses("weight 91", Works.ARGUMENT, x, () -> x.coat(0, 20, 91));
+    check.refuses("no coil", Works.INDEX, x, () -> x.weight(0, 0));
     check.is("nothing was used", x.left(0), 999);
     check.is("nothing was run", x.reset(), 0);
     check.is("least", x.coat(0, 10, 10), 0);
@@ -42,12 +42,12 @@ final class CoilsTest {
     CoatLine x = new CoatLine();
     x.lot('p', 100, 11);
     x.lot('p', 100, 10);
-    check.refuses("11 of 10", Works.UNSUPPORTED, () -> x.coat(1, 20, 50));
+    check.refuses("11 of 10", Works.UNSUPPORTED, x, () -> x.coat(1, 20, 50));
     check.is("left as it was", x.left(1), 10);
     check.is("11 of 11", x.coat(0, 20, 50), 0);
     check.is("nothing left", x.left(0), 0);
-    check.refuses("nothing", Works.UNSUPPORTED, () -> x.coat(0, 10, 10));
-    check.refuses("out of range first", Works.ARGUMENT, () -> x.coat(0, 10, 9));
+    check.refuses("nothing", Works.UNSUPPORTED, x, () -> x.coat(0, 10, 10));
+    check.refuses("out of range first", Works.ARGUMENT, x, () -> x.coat(0, 10, 9));
     check.is("run by what was coated", x.reset(), 20);
   }
 
@@ -57,28 +57,28 @@ final class CoilsTest {
     for (int number = 0; number < 10; number++) {
       check.is("coil", x.coat(0, 10, 10), number);
     }
-    check.refuses("eleventh, not as much", Works.UNSUPPORTED, () -> x.coat(0, 10, 10));
+    check.refuses("eleventh, not as much", Works.UNSUPPORTED, x, () -> x.coat(0, 10, 10));
     x.lot('p', 100, 999);
-    check.refuses("eleventh", Works.STATE, () -> x.coat(1, 10, 10));
-    check.refuses("eleventh out of range", Works.ARGUMENT, () -> x.coat(1, 10, 91));
-    check.refuses("eleventh of no lot", Works.INDEX, () -> x.coat(2, 10, 10));
+    check.refuses("eleventh", Works.STATE, x, () -> x.coat(1, 10, 10));
+    check.refuses("eleventh out of range", Works.ARGUMENT, x, () -> x.coat(1, 10, 91));
+    check.refuses("eleventh of no lot", Works.INDEX, x, () -> x.coat(2, 10, 10));
     check.is("nothing was used", x.left(1), 999);
     check.is("nothing was run", x.reset(), 100);
     check.is("the last one", x.weight(9, 9), 10);
-    check.refuses("no eleventh", Works.INDEX, () -> x.weight(10, 0));
+    check.refuses("no eleventh", Works.INDEX, x, () -> x.weight(10, 0));
   }
 
   private static void weightOfNoMetre() {
     CoatLine x = Works.coated(50);
     check.is("weight 0", x.weight(0, 0), 50);
     check.is("weight 199", x.weight(1, 199), 50);
-    check.refuses("metre -1", Works.INDEX, () -> x.weight(0, -1));
-    check.refuses("metre 200", Works.INDEX, () -> x.weight(0, 200));
-    check.refuses("coil -1", Works.INDEX, () -> x.weight(-1, 0));
-    check.refuses("coil 2", Works.INDEX, () -> x.weight(2, 0));
+    check.refuses("metre -1", Works.INDEX, x, () -> x.weight(0, -1));
+    check.refuses("metre 200", Works.INDEX, x, () -> x.weight(0, 200));
+    check.refuses("coil -1", Works.INDEX, x, () -> x.weight(-1, 0));
+    check.refuses("coil 2", Works.INDEX, x, () -> x.weight(2, 0));
     x.coat(0, 30, 10);
     check.is("metre 29 of 30", x.weight(2, 29), 10);
-    check.refuses("metre 30 of 30", Works.INDEX, () -> x.weight(2, 30));
+    check.refuses("metre 30 of 30", Works.INDEX, x, () -> x.weight(2, 30));
   }
 
   private static void marksAreReturned() {
@@ -95,17 +95,17 @@ final class CoilsTest {
   private static void marksRefused() {
     CoatLine x = Works.coated(50);
     x.mark(0, 3, 'c');
-    check.refuses("no such mark", Works.ARGUMENT, () -> x.mark(0, 3, 'z'));
-    check.refuses("S", Works.ARGUMENT, () -> x.mark(0, 3, 'S'));
-    check.refuses("coil 2", Works.INDEX, () -> x.mark(2, 3, 'z'));
-    check.refuses("coil -1", Works.INDEX, () -> x.mark(-1, 3, 's'));
-    check.refuses("metre 200", Works.INDEX, () -> x.mark(0, 200, 'z'));
-    check.refuses("metre -1", Works.INDEX, () -> x.mark(0, -1, 's'));
+    check.refuses("no such mark", Works.ARGUMENT, x, () -> x.mark(0, 3, 'z'));
+    check.refuses("S", Works.ARGUMENT, x, () -> x.mark(0, 3, 'S'));
+    check.refuses("coil 2", Works.INDEX, x, () -> x.mark(2, 3, 'z'));
+    check.refuses("coil -1", Works.INDEX, x, () -> x.mark(-1, 3, 's'));
+    check.refuses("metre 200", Works.INDEX, x, () -> x.mark(0, 200, 'z'));
+    check.refuses("metre -1", Works.INDEX, x, () -> x.mark(0, -1, 's'));
     check.isLetter("as it was", x.mark(0, 3, 'c'), 'c');
     x.slit(0, 1);
-    check.refuses("slit", Works.UNSUPPORTED, () -> x.mark(0, 3, '-'));
-    check.refuses("slit, no such mark", Works.ARGUMENT, () -> x.mark(0, 3, 'z'));
-    check.refuses("slit, no such metre", Works.INDEX, () -> x.mark(0, 200, 's'));
+    check.refuses("slit", Works.UNSUPPORTED, x, () -> x.mark(0, 3, '-'));
+    check.refuses("slit, no such mark", Works.ARGUMENT, x, () -> x.mark(0, 3, 'z'));
+    check.refuses("slit, no such metre", Works.INDEX, x, () -> x.mark(0, 200, 's'));
     check.isLetter("the other coil is not slit", x.mark(1, 3, 's'), '-');
     x.slit(1, 1);
     x.wind(0, 1, 3);
@@ -134,23 +134,23 @@ final class CoilsTest {
   private static void pressRefused() {
     CoatLine x = Works.coated(50);
     x.press(0, 30);
-    check.refuses("-1", Works.ARGUMENT, () -> x.press(0, -1));
-    check.refuses("101", Works.ARGUMENT, () -> x.press(0, 101));
-    check.refuses("coil 2", Works.INDEX, () -> x.press(2, 101));
-    check.refuses("coil -1", Works.INDEX, () -> x.press(-1, 1));
+    check.refuses("-1", Works.ARGUMENT, x, () -> x.press(0, -1));
+    check.refuses("101", Works.ARGUMENT, x, () -> x.press(0, 101));
+    check.refuses("coil 2", Works.INDEX, x, () -> x.press(2, 101));
+    check.refuses("coil -1", Works.INDEX, x, () -> x.press(-1, 1));
     check.is("as it was", x.press(0, 40), 30);
     x.slit(0, 1);
-    check.refuses("slit", Works.UNSUPPORTED, () -> x.press(0, 1));
-    check.refuses("slit, out of range", Works.ARGUMENT, () -> x.press(0, 101));
+    check.refuses("slit", Works.UNSUPPORTED, x, () -> x.press(0, 1));
+    check.refuses("slit, out of range", Works.ARGUMENT, x, () -> x.press(0, 101));
     check.is("thickness as it was", x.thickness(0, 0), 71);
   }
 
   private static void thicknessRefused() {
     CoatLine x = Works.coated(50);
-    check.refuses("coil 2", Works.INDEX, () -> x.thickness(2, 0));
-    check.refuses("coil -1", Works.INDEX, () -> x.thickness(-1, 0));
-    check.refuses("metre 200", Works.INDEX, () -> x.thickness(0, 200));
-    check.refuses("metre -1", Works.INDEX, () -> x.thickness(0, -1));
+    check.refuses("coil 2", Works.INDEX, x, () -> x.thickness(2, 0));
+    check.refuses("coil -1", Works.INDEX, x, () -> x.thickness(-1, 0));
+    check.refuses("metre 200", Works.INDEX, x, () -> x.thickness(0, 200));
+    check.refuses("metre -1", Works.INDEX, x, () -> x.thickness(0, -1));
   }
 
   private static void slitNumbersRibbons() {
@@ -160,7 +160,7 @@ final class CoilsTest {
     x.coat(0, 10, 10);
     check.is("third", x.slit(2, 1), 6);
     check.is("next of the last one", x.next(6), 0);
-    check.refuses("no eighth", Works.INDEX, () -> x.next(7));
+    check.refuses("no eighth", Works.INDEX, x, () -> x.next(7));
     check.is("ribbon 5 is 'p', 0 is 'n'", x.wind(5, 0, 2), 0);
     check.is("of coil 0", x.traced(0, true, 1), 1);
     check.is("of coil 1", x.traced(0, false, 2), 1002);
@@ -168,13 +168,13 @@ final class CoilsTest {
 
   private static void slitRefused() {
     CoatLine x = Works.coated(50);
-    check.refuses("coil 2", Works.INDEX, () -> x.slit(2, 0));
-    check.refuses("coil -1", Works.INDEX, () -> x.slit(-1, 1));
-    check.refuses("0 ribbons", Works.ARGUMENT, () -> x.slit(0, 0));
-    check.refuses("5 ribbons", Works.ARGUMENT, () -> x.slit(0, 5));
+    check.refuses("coil 2", Works.INDEX, x, () -> x.slit(2, 0));
+    check.refuses("coil -1", Works.INDEX, x, () -> x.slit(-1, 1));
+    check.refuses("0 ribbons", Works.ARGUMENT, x, () -> x.slit(0, 0));
+    check.refuses("5 ribbons", Works.ARGUMENT, x, () -> x.slit(0, 5));
     check.is("not slit by them", x.slit(0, 1), 0);
-    check.refuses("slit", Works.UNSUPPORTED, () -> x.slit(0, 1));
-    check.refuses("slit, out of range", Works.ARGUMENT, () -> x.slit(0, 5));
+    check.refuses("slit", Works.UNSUPPORTED, x, () -> x.slit(0, 1));
+    check.refuses("slit, out of range", Works.ARGUMENT, x, () -> x.slit(0, 5));
     check.is("wear of the one", x.sharpen(), 200);
   }
 
@@ -188,13 +188,13 @@ final class CoilsTest {
     x.slit(1, 4);
     x.slit(2, 4);
     check.is("up to 15", x.slit(3, 3), 12);
-    check.refuses("17", Works.STATE, () -> x.slit(4, 2));
-    check.refuses("17, slit", Works.UNSUPPORTED, () -> x.slit(3, 2));
-    check.refuses("17, out of range", Works.ARGUMENT, () -> x.slit(4, 5));
-    check.refuses("no sixteenth yet", Works.INDEX, () -> x.burr(15));
+    check.refuses("17", Works.STATE, x, () -> x.slit(4, 2));
+    check.refuses("17, slit", Works.UNSUPPORTED, x, () -> x.slit(3, 2));
+    check.refuses("17, out of range", Works.ARGUMENT, x, () -> x.slit(4, 5));
+    check.refuses("no sixteenth yet", Works.INDEX, x, () -> x.burr(15));
     check.is("wear of four", x.sharpen(), 40);
     check.is("sixteenth", x.slit(4, 1), 15);
-    check.refuses("another", Works.STATE, () -> x.slit(5, 1));
+    check.refuses("another", Works.STATE, x, () -> x.slit(5, 1));
     check.is("burr of the sixteenth", x.burr(15), 0);
   }
 
@@ -221,8 +221,8 @@ final class CoilsTest {
     check.is("burrs stay", x.burr(7), 2);
     x.slit(4, 1);
     check.is("sharp", x.burr(8), 0);
-    check.refuses("ribbon 9", Works.INDEX, () -> x.burr(9));
-    check.refuses("ribbon -1", Works.INDEX, () -> x.burr(-1));
+    check.refuses("ribbon 9", Works.INDEX, x, () -> x.burr(9));
+    check.refuses("ribbon -1", Works.INDEX, x, () -> x.burr(-1));
   }
 
   private static void nextOfARibbon() {
@@ -238,7 +238,7 @@ final class CoilsTest {
     x.wind(0, 2, 3);
     check.is("all of it", x.next(0), 10);
     check.is("12 of 'n'", x.next(2), 12);
-    check.refuses("ribbon 3", Works.INDEX, () -> x.next(3));
-    check.refuses("ribbon -1", Works.INDEX, () -> x.next(-1));
+    check.refuses("ribbon 3", Works.INDEX, x, () -> x.next(3));
+    check.refuses("ribbon -1", Works.INDEX, x, () -> x.next(-1));
   }
 }

@@ -43,13 +43,13 @@ final class DoubtsTest {
 
   private static void doubtRefused() {
     CoatLine x = Works.wound(50, 4);
-    check.refuses("coil 2", Works.INDEX, () -> x.doubt(2, 5, 4));
-    check.refuses("coil -1", Works.INDEX, () -> x.doubt(-1, 0, 0));
-    check.refuses("from -1", Works.INDEX, () -> x.doubt(0, -1, 0));
-    check.refuses("from 200", Works.INDEX, () -> x.doubt(0, 200, 199));
-    check.refuses("to 200", Works.INDEX, () -> x.doubt(0, 0, 200));
-    check.refuses("to -1", Works.INDEX, () -> x.doubt(0, 0, -1));
-    check.refuses("the last one less", Works.ARGUMENT, () -> x.doubt(0, 1, 0));
+    check.refuses("coil 2", Works.INDEX, x, () -> x.doubt(2, 5, 4));
+    check.refuses("coil -1", Works.INDEX, x, () -> x.doubt(-1, 0, 0));
+    check.refuses("from -1", Works.INDEX, x, () -> x.doubt(0, -1, 0));
+    check.refuses("from 200", Works.INDEX, x, () -> x.doubt(0, 200, 199));
+    check.refuses("to 200", Works.INDEX, x, () -> x.doubt(0, 0, 200));
+    check.refuses("to -1", Works.INDEX, x, () -> x.doubt(0, 0, -1));
+    check.refuses("the last one less", Works.ARGUMENT, x, () -> x.doubt(0, 1, 0));
     check.no("nothing is covered", x.isCovered(0));
     check.is("none was added", x.doubt(0, 199, 199), 0);
   }
@@ -111,9 +111,9 @@ final class DoubtsTest {
 
   private static void doubtAllRefused() {
     CoatLine x = Works.wound(50, 4);
-    check.refuses("lot 2", Works.INDEX, () -> x.doubtAll(true, 2));
-    check.refuses("lot -1", Works.INDEX, () -> x.doubtAll(true, -1));
-    check.refuses("burr -1", Works.ARGUMENT, () -> x.doubtAll(false, -1));
+    check.refuses("lot 2", Works.INDEX, x, () -> x.doubtAll(true, 2));
+    check.refuses("lot -1", Works.INDEX, x, () -> x.doubtAll(true, -1));
+    check.refuses("burr -1", Works.ARGUMENT, x, () -> x.doubtAll(false, -1));
     check.no("nothing is covered", x.isCovered(0));
     check.is("a burr of 9 needs no lot", x.doubtAll(false, 9), 0);
   }
@@ -150,16 +150,16 @@ final class DoubtsTest {
       check.is("doubt", x.doubt(0, 9, 9), number);
     }
     check.is("the eighth", x.doubtAll(false, 9), 7);
-    check.refuses("a ninth", Works.STATE, () -> x.doubt(0, 0, 0));
-    check.refuses("a ninth, the last one less", Works.ARGUMENT, () -> x.doubt(0, 1, 0));
-    check.refuses("a ninth of no coil", Works.INDEX, () -> x.doubt(2, 0, 0));
-    check.refuses("a ninth of a lot", Works.STATE, () -> x.doubtAll(true, 0));
-    check.refuses("a ninth of no lot", Works.INDEX, () -> x.doubtAll(true, 2));
-    check.refuses("a ninth of burrs", Works.STATE, () -> x.doubtAll(false, 0));
-    check.refuses("a ninth of no burrs", Works.ARGUMENT, () -> x.doubtAll(false, -1));
+    check.refuses("a ninth", Works.STATE, x, () -> x.doubt(0, 0, 0));
+    check.refuses("a ninth, the last one less", Works.ARGUMENT, x, () -> x.doubt(0, 1, 0));
+    check.refuses("a ninth of no coil", Works.INDEX, x, () -> x.doubt(2, 0, 0));
+    check.refuses("a ninth of a lot", Works.STATE, x, () -> x.doubtAll(true, 0));
+    check.refuses("a ninth of no lot", Works.INDEX, x, () -> x.doubtAll(true, 2));
+    check.refuses("a ninth of burrs", Works.STATE, x, () -> x.doubtAll(false, 0));
+    check.refuses("a ninth of no burrs", Works.ARGUMENT, x, () -> x.doubtAll(false, -1));
     check.no("nothing is covered", x.isCovered(0));
     check.is("clear", x.clear(3), 0);
-    check.refuses("cleared ones keep their numbers", Works.STATE, () -> x.doubt(0, 0, 0));
+    check.refuses("cleared ones keep their numbers", Works.STATE, x, () -> x.doubt(0, 0, 0));
     x.fill(0, 4);
     x.protocol(0, 1);
     x.form(0, 0, 0);
@@ -184,18 +184,18 @@ final class DoubtsTest {
   private static void clearRefused() {
     CoatLine x = Works.wound(50, 4);
     x.doubt(0, 0, 0);
-    check.refuses("doubt 1", Works.INDEX, () -> x.clear(1));
-    check.refuses("doubt -1", Works.INDEX, () -> x.clear(-1));
+    check.refuses("doubt 1", Works.INDEX, x, () -> x.clear(1));
+    check.refuses("doubt -1", Works.INDEX, x, () -> x.clear(-1));
     check.yes("covered still", x.isCovered(0));
     check.is("clear", x.clear(0), 1);
-    check.refuses("cleared", Works.UNSUPPORTED, () -> x.clear(0));
+    check.refuses("cleared", Works.UNSUPPORTED, x, () -> x.clear(0));
   }
 
   private static void coveredRefused() {
     CoatLine x = Works.wound(50, 4);
-    check.refuses("cell 1", Works.INDEX, () -> x.isCovered(1));
-    check.refuses("cell -1", Works.INDEX, () -> x.isCovered(-1));
-    check.refuses("no pack", Works.INDEX, () -> x.isRecalled(0));
+    check.refuses("cell 1", Works.INDEX, x, () -> x.isCovered(1));
+    check.refuses("cell -1", Works.INDEX, x, () -> x.isCovered(-1));
+    check.refuses("no pack", Works.INDEX, x, () -> x.isRecalled(0));
   }
 
   private static void recalledPacks() {
@@ -210,13 +210,13 @@ final class DoubtsTest {
     x.doubt(0, 12, 12);
     check.yes("by cell 3", x.isRecalled(0));
     check.no("the other one", x.isRecalled(1));
-    check.refuses("not driven", Works.UNSUPPORTED, () -> x.drive(0, 1, 1));
+    check.refuses("not driven", Works.UNSUPPORTED, x, () -> x.drive(0, 1, 1));
     check.is("the other one is", x.drive(1, 1, 1), 1);
     x.clear(0);
     check.no("cleared", x.isRecalled(0));
     check.is("driven", x.drive(0, 1, 1), 1);
-    check.refuses("pack 2", Works.INDEX, () -> x.isRecalled(2));
-    check.refuses("pack -1", Works.INDEX, () -> x.isRecalled(-1));
+    check.refuses("pack 2", Works.INDEX, x, () -> x.isRecalled(2));
+    check.refuses("pack -1", Works.INDEX, x, () -> x.isRecalled(-1));
   }
 
   /** Two cells of one coil 'p', with so many marked metres between, and of two coils 'n'. */
@@ -282,12 +282,12 @@ final class DoubtsTest {
   private static void sistersRefused() {
     CoatLine x = Works.wound(50, 4, 4);
     check.no("not its own", x.isSister(0, 0));
-    check.refuses("cell 2", Works.INDEX, () -> x.sisters(2));
-    check.refuses("cell -1", Works.INDEX, () -> x.sisters(-1));
-    check.refuses("first 2", Works.INDEX, () -> x.isSister(2, 0));
-    check.refuses("first -1", Works.INDEX, () -> x.isSister(-1, 0));
-    check.refuses("second 2", Works.INDEX, () -> x.isSister(0, 2));
-    check.refuses("second -1", Works.INDEX, () -> x.isSister(0, -1));
-    check.refuses("both", Works.INDEX, () -> x.isSister(2, 2));
+    check.refuses("cell 2", Works.INDEX, x, () -> x.sisters(2));
+    check.refuses("cell -1", Works.INDEX, x, () -> x.sisters(-1));
+    check.refuses("first 2", Works.INDEX, x, () -> x.isSister(2, 0));
+    check.refuses("first -1", Works.INDEX, x, () -> x.isSister(-1, 0));
+    check.refuses("second 2", Works.INDEX, x, () -> x.isSister(0, 2));
+    check.refuses("second -1", Works.INDEX, x, () -> x.isSister(0, -1));
+    check.refuses("both", Works.INDEX, x, () -> x.isSister(2, 2));
   }
 }

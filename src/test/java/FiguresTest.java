@@ -22,7 +22,7 @@ final class FiguresTest {
 
   private static void sharesOfCells() {
     CoatLine x = new CoatLine();
-    check.refuses("no cells", ArithmeticException.class, () -> x.readyShare());
+    check.refuses("no cells", ArithmeticException.class, x, () -> x.readyShare());
     CoatLine y = Works.wet(50, 4, 4, 4);
     check.isReal("none ready", y.readyShare(), 0);
     y.protocol(0, 1);
@@ -40,7 +40,7 @@ final class FiguresTest {
 
   private static void meansOfCells() {
     CoatLine x = new CoatLine();
-    check.refuses("no cells", ArithmeticException.class, () -> x.meanHold());
+    check.refuses("no cells", ArithmeticException.class, x, () -> x.meanHold());
     CoatLine y = Works.wound(50, 4, 5, 2);
     check.isReal("200, 250 and 100", y.meanHold(), 550.0 / 3.0);
     y.fill(0, 4);

@@ -24,14 +24,14 @@ final class LotsTest {
     for (int channel = 0; channel < 4; channel++) {
       check.is("freeAt", x.freeAt(channel), 0);
     }
-    check.refuses("left", Works.INDEX, () -> x.left(0));
-    check.refuses("weight", Works.INDEX, () -> x.weight(0, 0));
-    check.refuses("next", Works.INDEX, () -> x.next(0));
-    check.refuses("cellAt", Works.INDEX, () -> x.cellAt(0, 'h'));
-    check.refuses("step", Works.INDEX, () -> x.step(0, 1, 1));
-    check.refuses("spread", Works.INDEX, () -> x.spread(0));
-    check.refuses("state", Works.INDEX, () -> x.state(0));
-    check.refuses("clear", Works.INDEX, () -> x.clear(0));
+    check.refuses("left", Works.INDEX, x, () -> x.left(0));
+    check.refuses("weight", Works.INDEX, x, () -> x.weight(0, 0));
+    check.refuses("next", Works.INDEX, x, () -> x.next(0));
+    check.refuses("cellAt", Works.INDEX, x, () -> x.cellAt(0, 'h'));
+    check.refuses("step", Works.INDEX, x, () -> x.step(0, 1, 1));
+    check.refuses("spread", Works.INDEX, x, () -> x.spread(0));
+    check.refuses("state", Works.INDEX, x, () -> x.state(0));
+    check.refuses("clear", Works.INDEX, x, () -> x.clear(0));
   }
 
   private static void newObjectHasItsSettings() {
@@ -58,12 +58,12 @@ final class LotsTest {
 
   private static void lotsOutOfRange() {
     CoatLine x = new CoatLine();
-    check.refuses("kind q", Works.ARGUMENT, () -> x.lot('q', 100, 5));
-    check.refuses("kind P", Works.ARGUMENT, () -> x.lot('P', 100, 5));
-    check.refuses("strength 49", Works.ARGUMENT, () -> x.lot('p', 49, 5));
-    check.refuses("strength 151", Works.ARGUMENT, () -> x.lot('p', 151, 5));
-    check.refuses("amount 0", Works.ARGUMENT, () -> x.lot('n', 100, 0));
-    check.refuses("amount 1000", Works.ARGUMENT, () -> x.lot('n', 100, 1000));
+    check.refuses("kind q", Works.ARGUMENT, x, () -> x.lot('q', 100, 5));
+    check.refuses("kind P", Works.ARGUMENT, x, () -> x.lot('P', 100, 5));
+    check.refuses("strength 49", Works.ARGUMENT, x, () -> x.lot('p', 49, 5));
+    check.refuses("strength 151", Works.ARGUMENT, x, () -> x.lot('p', 151, 5));
+    check.refuses("amount 0", Works.ARGUMENT, x, () -> x.lot('n', 100, 0));
+    check.refuses("amount 1000", Works.ARGUMENT, x, () -> x.lot('n', 100, 1000));
     check.is("first lot behind them", x.lot('p', 100, 5), 0);
   }
 
@@ -72,11 +72,11 @@ final class LotsTest {
     for (int number = 0; number < 8; number++) {
       check.is("lot", x.lot(number % 2 == 0 ? 'p' : 'n', 100, 10 + number), number);
     }
-    check.refuses("ninth", Works.STATE, () -> x.lot('p', 100, 5));
-    check.refuses("ninth of no kind", Works.ARGUMENT, () -> x.lot('x', 100, 5));
-    check.refuses("ninth without an amount", Works.ARGUMENT, () -> x.lot('p', 100, 0));
+    check.refuses("ninth", Works.STATE, x, () -> x.lot('p', 100, 5));
+    check.refuses("ninth of no kind", Works.ARGUMENT, x, () -> x.lot('x', 100, 5));
+    check.refuses("ninth without an amount", Works.ARGUMENT, x, () -> x.lot('p', 100, 0));
     check.is("left of the eighth", x.left(7), 17);
-    check.refuses("left of a ninth", Works.INDEX, () -> x.left(8));
+    check.refuses("left of a ninth", Works.INDEX, x, () -> x.left(8));
   }
 
   private static void leftIsTheAmount() {
@@ -86,10 +86,10 @@ final class LotsTest {
     check.is("60 by 40 use 25", x.left(0), 275);
     x.coat(0, 33, 40);
     check.is("33 by 40 use 13 and 1", x.left(0), 261);
-    check.refuses("left -1", Works.INDEX, () -> x.left(-1));
-    check.refuses("left 1", Works.INDEX, () -> x.left(1));
-    check.refuses("left of the least", Works.INDEX, () -> x.left(Integer.MIN_VALUE));
-    check.refuses("left of the most", Works.INDEX, () -> x.left(Integer.MAX_VALUE));
+    check.refuses("left -1", Works.INDEX, x, () -> x.left(-1));
+    check.refuses("left 1", Works.INDEX, x, () -> x.left(1));
+    check.refuses("left of the least", Works.INDEX, x, () -> x.left(Integer.MIN_VALUE));
+    check.refuses("left of the most", Works.INDEX, x, () -> x.left(Integer.MAX_VALUE));
   }
 
   private static void driftCountsFromNextMetre() {
@@ -118,8 +118,8 @@ final class LotsTest {
   private static void driftOutOfRange() {
     CoatLine x = new CoatLine();
     x.drift(7);
-    check.refuses("drift -1", Works.ARGUMENT, () -> x.drift(-1));
-    check.refuses("drift 100", Works.ARGUMENT, () -> x.drift(100));
+    check.refuses("drift -1", Works.ARGUMENT, x, () -> x.drift(-1));
+    check.refuses("drift 100", Works.ARGUMENT, x, () -> x.drift(100));
     check.is("drift as it was", x.drift(99), 7);
     check.is("drift 99", x.drift(1), 99);
   }

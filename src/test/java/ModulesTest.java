@@ -27,7 +27,7 @@ final class ModulesTest {
     for (int i = 0; i < want.length; i++) {
       check.is(what + ", cell " + i, x.cellOf(module, i), want[i]);
     }
-    check.refuses(what + ", no more", Works.ELEMENT, () -> x.cellOf(module, want.length));
+    check.refuses(what + ", no more", Works.ELEMENT, x, () -> x.cellOf(module, want.length));
   }
 
   // A cell that weighs 10 by the metre and is ready holds 9 by the metre, less 2.
@@ -80,8 +80,8 @@ final class ModulesTest {
     cells("sort b", x, 0, 2, 3);
     x.module(2, 'a');
     cells("sort a", x, 1, 0, 1);
-    check.refuses("sort c", Works.ARGUMENT, () -> x.module(2, 'c'));
-    check.refuses("no more of b", Works.ELEMENT, () -> x.module(2, 'b'));
+    check.refuses("sort c", Works.ARGUMENT, x, () -> x.module(2, 'c'));
+    check.refuses("no more of b", Works.ELEMENT, x, () -> x.module(2, 'b'));
   }
 
   private static void onlyReadyAndFree() {
@@ -95,32 +95,32 @@ final class ModulesTest {
     x.room(-20);
     x.protocol(1, 1);
     x.form(3, 2, 3);
-    check.refuses("none ready", Works.ELEMENT, () -> x.module(2, 'a'));
+    check.refuses("none ready", Works.ELEMENT, x, () -> x.module(2, 'a'));
     x.pass(1);
-    check.refuses("two ready", Works.ELEMENT, () -> x.module(3, 'a'));
+    check.refuses("two ready", Works.ELEMENT, x, () -> x.module(3, 'a'));
     x.doubt(0, 4, 4);
-    check.refuses("one covered", Works.ELEMENT, () -> x.module(2, 'a'));
+    check.refuses("one covered", Works.ELEMENT, x, () -> x.module(2, 'a'));
     x.clear(0);
-    check.refuses("ever covered", Works.ELEMENT, () -> x.module(2, 'a'));
+    check.refuses("ever covered", Works.ELEMENT, x, () -> x.module(2, 'a'));
     x.pass(1);
     check.is("two ready again", x.module(2, 'a'), 0);
     cells("0 and 2", x, 0, 0, 2);
-    check.refuses("taken", Works.ELEMENT, () -> x.module(2, 'a'));
+    check.refuses("taken", Works.ELEMENT, x, () -> x.module(2, 'a'));
   }
 
   private static void moduleRefused() {
     CoatLine x = anySort('a', 4, 4, 4, 4, 4, 4, 4);
-    check.refuses("count 1", Works.ARGUMENT, () -> x.module(1, 'a'));
-    check.refuses("count 7", Works.ARGUMENT, () -> x.module(7, 'a'));
-    check.refuses("count -1", Works.ARGUMENT, () -> x.module(-1, 'a'));
-    check.refuses("sort x", Works.ARGUMENT, () -> x.module(2, 'x'));
-    check.refuses("sort -", Works.ARGUMENT, () -> x.module(2, '-'));
-    check.refuses("no such sort, none", Works.ARGUMENT, () -> x.module(2, 'A'));
-    check.refuses("none of b", Works.ELEMENT, () -> x.module(2, 'b'));
-    check.refuses("none was made", Works.INDEX, () -> x.spread(0));
+    check.refuses("count 1", Works.ARGUMENT, x, () -> x.module(1, 'a'));
+    check.refuses("count 7", Works.ARGUMENT, x, () -> x.module(7, 'a'));
+    check.refuses("count -1", Works.ARGUMENT, x, () -> x.module(-1, 'a'));
+    check.refuses("sort x", Works.ARGUMENT, x, () -> x.module(2, 'x'));
+    check.refuses("sort -", Works.ARGUMENT, x, () -> x.module(2, '-'));
+    check.refuses("no such sort, none", Works.ARGUMENT, x, () -> x.module(2, 'A'));
+    check.refuses("none of b", Works.ELEMENT, x, () -> x.module(2, 'b'));
+    check.refuses("none was made", Works.INDEX, x, () -> x.spread(0));
     check.is("count 6", x.module(6, 'a'), 0);
     cells("six", x, 0, 0, 1, 2, 3, 4, 5);
-    check.refuses("one is too few", Works.ELEMENT, () -> x.module(2, 'a'));
+    check.refuses("one is too few", Works.ELEMENT, x, () -> x.module(2, 'a'));
   }
 
   private static void moduleAtMostSix() {
@@ -128,16 +128,16 @@ final class ModulesTest {
     for (int module = 0; module < 6; module++) {
       check.is("module", x.module(2, 'a'), module);
     }
-    check.refuses("seventh", Works.STATE, () -> x.module(2, 'a'));
-    check.refuses("seventh, too few", Works.ELEMENT, () -> x.module(3, 'a'));
-    check.refuses("seventh, out of range", Works.ARGUMENT, () -> x.module(7, 'a'));
+    check.refuses("seventh", Works.STATE, x, () -> x.module(2, 'a'));
+    check.refuses("seventh, too few", Works.ELEMENT, x, () -> x.module(3, 'a'));
+    check.refuses("seventh, out of range", Works.ARGUMENT, x, () -> x.module(7, 'a'));
     cells("the sixth", x, 5, 10, 11);
   }
 
   private static void moduleNoneFirst() {
     CoatLine x = new CoatLine();
-    check.refuses("of no cells", Works.ELEMENT, () -> x.module(2, 'a'));
-    check.refuses("of no cells, out of range", Works.ARGUMENT, () -> x.module(0, 'a'));
+    check.refuses("of no cells", Works.ELEMENT, x, () -> x.module(2, 'a'));
+    check.refuses("of no cells, out of range", Works.ARGUMENT, x, () -> x.module(0, 'a'));
   }
 
   private static void anyChoiceIsTheBest() {
@@ -208,12 +208,12 @@ final class ModulesTest {
     CoatLine x = anySort('a', 9, 4, 8);
     x.module(3, 'a');
     cells("by numbers", x, 0, 0, 1, 2);
-    check.refuses("index -1", Works.ELEMENT, () -> x.cellOf(0, -1));
-    check.refuses("index of the most", Works.ELEMENT, () -> x.cellOf(0, Integer.MAX_VALUE));
-    check.refuses("module 1", Works.INDEX, () -> x.cellOf(1, 9));
-    check.refuses("module -1", Works.INDEX, () -> x.cellOf(-1, 0));
-    check.refuses("spread 1", Works.INDEX, () -> x.spread(1));
-    check.refuses("spread -1", Works.INDEX, () -> x.spread(-1));
+    check.refuses("index -1", Works.ELEMENT, x, () -> x.cellOf(0, -1));
+    check.refuses("index of the most", Works.ELEMENT, x, () -> x.cellOf(0, Integer.MAX_VALUE));
+    check.refuses("module 1", Works.INDEX, x, () -> x.cellOf(1, 9));
+    check.refuses("module -1", Works.INDEX, x, () -> x.cellOf(-1, 0));
+    check.refuses("spread 1", Works.INDEX, x, () -> x.spread(1));
+    check.refuses("spread -1", Works.INDEX, x, () -> x.spread(-1));
   }
 
   private static void spreadOfNow() {
@@ -254,19 +254,19 @@ final class ModulesTest {
 
   private static void packRefused() {
     CoatLine x = withModules(4);
-    check.refuses("module 4", Works.INDEX, () -> x.pack(4, 4));
-    check.refuses("module -1", Works.INDEX, () -> x.pack(-1, -1));
-    check.refuses("other 4", Works.INDEX, () -> x.pack(0, 4));
-    check.refuses("other -2", Works.INDEX, () -> x.pack(0, -2));
-    check.refuses("the same", Works.ARGUMENT, () -> x.pack(1, 1));
-    check.refuses("no pack was made", Works.INDEX, () -> x.state(0));
+    check.refuses("module 4", Works.INDEX, x, () -> x.pack(4, 4));
+    check.refuses("module -1", Works.INDEX, x, () -> x.pack(-1, -1));
+    check.refuses("other 4", Works.INDEX, x, () -> x.pack(0, 4));
+    check.refuses("other -2", Works.INDEX, x, () -> x.pack(0, -2));
+    check.refuses("the same", Works.ARGUMENT, x, () -> x.pack(1, 1));
+    check.refuses("no pack was made", Works.INDEX, x, () -> x.state(0));
     x.pack(1, -1);
-    check.refuses("in a pack", Works.UNSUPPORTED, () -> x.pack(1, -1));
-    check.refuses("first in a pack", Works.UNSUPPORTED, () -> x.pack(1, 0));
-    check.refuses("second in a pack", Works.UNSUPPORTED, () -> x.pack(0, 1));
-    check.refuses("the same in a pack", Works.ARGUMENT, () -> x.pack(1, 1));
+    check.refuses("in a pack", Works.UNSUPPORTED, x, () -> x.pack(1, -1));
+    check.refuses("first in a pack", Works.UNSUPPORTED, x, () -> x.pack(1, 0));
+    check.refuses("second in a pack", Works.UNSUPPORTED, x, () -> x.pack(0, 1));
+    check.refuses("the same in a pack", Works.ARGUMENT, x, () -> x.pack(1, 1));
     check.is("the other one is free", x.pack(0, 2), 1);
-    check.refuses("taken as a second one", Works.UNSUPPORTED, () -> x.pack(2, -1));
+    check.refuses("taken as a second one", Works.UNSUPPORTED, x, () -> x.pack(2, -1));
     check.is("the last one", x.pack(3, -1), 2);
   }
 
@@ -274,9 +274,9 @@ final class ModulesTest {
     CoatLine x = withModules(3);
     x.doubt(0, 6, 7);
     check.yes("cell 1 is covered", x.isCovered(1));
-    check.refuses("covered", Works.UNSUPPORTED, () -> x.pack(0, -1));
-    check.refuses("first covered", Works.UNSUPPORTED, () -> x.pack(0, 1));
-    check.refuses("second covered", Works.UNSUPPORTED, () -> x.pack(1, 0));
+    check.refuses("covered", Works.UNSUPPORTED, x, () -> x.pack(0, -1));
+    check.refuses("first covered", Works.UNSUPPORTED, x, () -> x.pack(0, 1));
+    check.refuses("second covered", Works.UNSUPPORTED, x, () -> x.pack(1, 0));
     check.is("not covered", x.pack(1, -1), 0);
     x.clear(0);
     check.is("no longer covered", x.pack(0, -1), 1);
@@ -287,9 +287,9 @@ final class ModulesTest {
     for (int module = 0; module < 4; module++) {
       check.is("pack", x.pack(module, -1), module);
     }
-    check.refuses("fifth", Works.STATE, () -> x.pack(4, 5));
-    check.refuses("fifth of the same", Works.ARGUMENT, () -> x.pack(4, 4));
-    check.refuses("fifth, in a pack", Works.UNSUPPORTED, () -> x.pack(4, 0));
-    check.refuses("fifth of no module", Works.INDEX, () -> x.pack(6, -1));
+    check.refuses("fifth", Works.STATE, x, () -> x.pack(4, 5));
+    check.refuses("fifth of the same", Works.ARGUMENT, x, () -> x.pack(4, 4));
+    check.refuses("fifth, in a pack", Works.UNSUPPORTED, x, () -> x.pack(4, 0));
+    check.refuses("fifth of no module", Works.INDEX, x, () -> x.pack(6, -1));
   }
 }

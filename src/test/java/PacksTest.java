@@ -31,24 +31,24 @@ final class PacksTest {
     CoatLine x = Works.packed(4, 4);
     check.is("least", x.offset(0, -5), 0);
     check.is("most", x.offset(0, 5), -5);
-    check.refuses("-6", Works.ARGUMENT, () -> x.offset(0, -6));
-    check.refuses("6", Works.ARGUMENT, () -> x.offset(0, 6));
-    check.refuses("pack 1, 6", Works.INDEX, () -> x.offset(1, 6));
-    check.refuses("pack -1", Works.INDEX, () -> x.offset(-1, 0));
+    check.refuses("-6", Works.ARGUMENT, x, () -> x.offset(0, -6));
+    check.refuses("6", Works.ARGUMENT, x, () -> x.offset(0, 6));
+    check.refuses("pack 1, 6", Works.INDEX, x, () -> x.offset(1, 6));
+    check.refuses("pack -1", Works.INDEX, x, () -> x.offset(-1, 0));
     check.is("as it was", x.offset(0, 0), 5);
   }
 
   private static void driveRefused() {
     CoatLine x = Works.packed(4, 4);
-    check.refuses("pack 1", Works.INDEX, () -> x.drive(1, 31, 0));
-    check.refuses("pack -1", Works.INDEX, () -> x.drive(-1, 1, 1));
-    check.refuses("current 31", Works.ARGUMENT, () -> x.drive(0, 31, 1));
-    check.refuses("current -31", Works.ARGUMENT, () -> x.drive(0, -31, 1));
-    check.refuses("0 hours", Works.ARGUMENT, () -> x.drive(0, 1, 0));
-    check.refuses("41 hours", Works.ARGUMENT, () -> x.drive(0, 1, 41));
+    check.refuses("pack 1", Works.INDEX, x, () -> x.drive(1, 31, 0));
+    check.refuses("pack -1", Works.INDEX, x, () -> x.drive(-1, 1, 1));
+    check.refuses("current 31", Works.ARGUMENT, x, () -> x.drive(0, 31, 1));
+    check.refuses("current -31", Works.ARGUMENT, x, () -> x.drive(0, -31, 1));
+    check.refuses("0 hours", Works.ARGUMENT, x, () -> x.drive(0, 1, 0));
+    check.refuses("41 hours", Works.ARGUMENT, x, () -> x.drive(0, 1, 41));
     x.doubt(0, 0, 0);
-    check.refuses("recalled", Works.UNSUPPORTED, () -> x.drive(0, 1, 1));
-    check.refuses("recalled, out of range", Works.ARGUMENT, () -> x.drive(0, 1, 41));
+    check.refuses("recalled", Works.UNSUPPORTED, x, () -> x.drive(0, 1, 1));
+    check.refuses("recalled, out of range", Works.ARGUMENT, x, () -> x.drive(0, 1, 41));
     check.is("nothing went in", x.cellAt(0, 'i'), 0);
     x.clear(0);
     check.is("no longer recalled", x.drive(0, 1, 1), 1);
@@ -121,11 +121,11 @@ final class PacksTest {
     check.is("heat", x.cellAt(0, 't'), 95);
     check.is("in", x.cellAt(0, 'i'), 60);
     check.is("state", x.state(0), 60);
-    check.refuses("off", Works.UNSUPPORTED, () -> x.drive(0, 1, 1));
-    check.refuses("off, out of range", Works.ARGUMENT, () -> x.drive(0, 1, 0));
+    check.refuses("off", Works.UNSUPPORTED, x, () -> x.drive(0, 1, 1));
+    check.refuses("off, out of range", Works.ARGUMENT, x, () -> x.drive(0, 1, 0));
     check.is("it rests though", x.rest(0, 1), 72);
     check.isLetter("a rest makes it none", x.stage(0), '-');
-    check.refuses("still off", Works.UNSUPPORTED, () -> x.drive(0, 1, 1));
+    check.refuses("still off", Works.UNSUPPORTED, x, () -> x.drive(0, 1, 1));
     check.yes("it was off", x.on(0));
     check.no("it is on again", x.on(0));
     check.is("driven again", x.drive(0, 30, 1), 1);
@@ -291,13 +291,13 @@ final class PacksTest {
   private static void restRefused() {
     CoatLine x = Works.packed(4, 4);
     x.offset(0, 1);
-    check.refuses("pack 1", Works.INDEX, () -> x.rest(1, 0));
-    check.refuses("pack -1", Works.INDEX, () -> x.rest(-1, 1));
-    check.refuses("0 hours", Works.ARGUMENT, () -> x.rest(0, 0));
-    check.refuses("41 hours", Works.ARGUMENT, () -> x.rest(0, 41));
+    check.refuses("pack 1", Works.INDEX, x, () -> x.rest(1, 0));
+    check.refuses("pack -1", Works.INDEX, x, () -> x.rest(-1, 1));
+    check.refuses("0 hours", Works.ARGUMENT, x, () -> x.rest(0, 0));
+    check.refuses("41 hours", Works.ARGUMENT, x, () -> x.rest(0, 41));
     check.is("no hour went by", x.state(0), 0);
     x.drive(0, -1, 1);
-    check.refuses("0 hours", Works.ARGUMENT, () -> x.rest(0, 0));
+    check.refuses("0 hours", Works.ARGUMENT, x, () -> x.rest(0, 0));
     check.isLetter("stage as it was", x.stage(0), 'e');
   }
 
@@ -414,12 +414,12 @@ final class PacksTest {
   private static void noSuchPack() {
     CoatLine x = Works.packed(4, 4);
     for (int pack : new int[] {-1, 1, Integer.MAX_VALUE}) {
-      check.refuses("on " + pack, Works.INDEX, () -> x.on(pack));
-      check.refuses("stage " + pack, Works.INDEX, () -> x.stage(pack));
-      check.refuses("state " + pack, Works.INDEX, () -> x.state(pack));
-      check.refuses("recount " + pack, Works.INDEX, () -> x.recount(pack));
-      check.refuses("balance " + pack, Works.INDEX, () -> x.balance(pack));
-      check.refuses("isRecalled " + pack, Works.INDEX, () -> x.isRecalled(pack));
+      check.refuses("on " + pack, Works.INDEX, x, () -> x.on(pack));
+      check.refuses("stage " + pack, Works.INDEX, x, () -> x.stage(pack));
+      check.refuses("state " + pack, Works.INDEX, x, () -> x.state(pack));
+      check.refuses("recount " + pack, Works.INDEX, x, () -> x.recount(pack));
+      check.refuses("balance " + pack, Works.INDEX, x, () -> x.balance(pack));
+      check.refuses("isRecalled " + pack, Works.INDEX, x, () -> x.isRecalled(pack));
     }
   }
 }
