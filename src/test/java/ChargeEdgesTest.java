@@ -193,17 +193,9 @@ final class ChargeEdgesTest {
   private static CoatLine cold(int current, int heat, int room) {
     CoatLine x = Works.slit(50, 1);
     x.dew(-30);
-    for (int cell = 0; cell < 2; cell++) {
-      x.wind(0, 1, 8);
-      x.fill(cell, 4);
-    }
-    x.protocol(0, 1);
-    x.form(0, 0, 0);
-    x.form(1, 0, 1);
-    x.pass(1);
-    x.bounds(0, 0, 99);
-    x.module(2, 'a');
-    x.pack(0, -1);
+    x.wind(0, 1, 8);
+    x.wind(0, 1, 8);
+    Works.packWound(x, 2);
     x.drive(0, current, 1);
     check.is("heat by " + current, x.cellAt(0, 't'), heat);
     x.room(room);

@@ -161,16 +161,7 @@ final class PackEdgesTest {
       x.wind(0, 1, 8);
       x.dew(0);
       x.wind(0, 1, 8);
-      x.fill(0, 4);
-      x.fill(1, 4);
-      x.pass(20);
-      x.protocol(0, 1);
-      x.form(0, 0, 0);
-      x.form(1, 0, 1);
-      x.pass(1);
-      x.bounds(0, 0, 99);
-      x.module(2, 'a');
-      x.pack(0, -1);
+      Works.packWound(x, 2);
       x.drive(0, current, 1);
       int heat = current * current * 16 / 200;
       check.is("the cooler one", x.cellAt(0, 't'), current * current * 12 / 200);

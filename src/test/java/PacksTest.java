@@ -229,17 +229,7 @@ final class PacksTest {
     y.wind(0, 1, 8);
     y.dew(0);
     y.wind(0, 1, 8);
-    for (int cell = 0; cell < 2; cell++) {
-      y.fill(cell, 4);
-    }
-    y.pass(20);
-    y.protocol(0, 1);
-    y.form(0, 0, 0);
-    y.form(1, 0, 1);
-    y.pass(1);
-    y.bounds(0, 0, 99);
-    y.module(2, 'a');
-    y.pack(0, -1);
+    Works.packWound(y, 2);
     y.drive(0, 24, 1);
     check.is("a heat of 34", y.cellAt(0, 't'), 34);
     check.is("the hottest", y.cellAt(1, 't'), 46);

@@ -53,21 +53,39 @@ final class Works {
   /** Such cells, empty and ready, with the time gone on by the hours that the channels needed. */
   static CoatLine ready(int weight, int... lengths) {
     CoatLine x = wet(weight, lengths);
-    x.protocol(0, 1);
-    int last = 0;
-    for (int cell = 0; cell < lengths.length; cell++) {
-      last = Math.max(last, x.form(cell, 0, cell % 4));
-    }
-    x.pass(last - x.time());
+    formAll(x, lengths.length);
     return x;
   }
 
   /** A pack 0 of a module 0 of such cells, all of sort 'a', that weigh 50 by the metre. */
   static CoatLine packed(int... lengths) {
     CoatLine x = ready(50, lengths);
-    x.bounds(0, 0, 99);
-    x.module(lengths.length, 'a');
-    x.pack(0, -1);
+    packAll(x, lengths.length);
     return x;
+  }
+
+  /** Brings so many cells, which are wound alone, to a pack 0, empty. */
+  static void packWound(CoatLine x, int cells) {
+    for (int cell = 0; cell < cells; cell++) {
+      x.fill(cell, 4);
+    }
+    x.pass(20);
+    formAll(x, cells);
+    packAll(x, cells);
+  }
+
+  private static void formAll(CoatLine x, int cells) {
+    x.protocol(0, 1);
+    int last = 0;
+    for (int cell = 0; cell < cells; cell++) {
+      last = Math.max(last, x.form(cell, 0, cell % 4));
+    }
+    x.pass(last - x.time());
+  }
+
+  private static void packAll(CoatLine x, int cells) {
+    x.bounds(0, 0, 99);
+    x.module(cells, 'a');
+    x.pack(0, -1);
   }
 }
