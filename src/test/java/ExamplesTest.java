@@ -1,13 +1,45 @@
+import java.nio.file.Files;
+import java.nio.file.Path;
+import java.util.regex.Matcher;
+import java.util.regex.Pattern;
+
 /** The examples at the end of "Terms", each on a new object. */
 final class ExamplesTest {
   private static final Check check = new Check("ExamplesTest");
 
-  public static void main(String[] args) {
+  public static void main(String[] args) throws Exception {
+    asTheDocumentHasThem();
     twoCoatsWoundToACell();
     markTraced();
     cellFormed();
     driftMovesWeights();
     check.end();
+  }
+
+  /** Reads them out of the document, where lines break within calls. */
+  private static void asTheDocumentHasThem() throws Exception {
+    String document = Files.readString(Path.of("../shared/DOC.md"));
+    int from = document.indexOf("\nExamples: ");
+    String all = document.substring(from, document.indexOf("\nAhead of the calls", from));
+    String[] examples = all.replace("```text", "").replace("```", "").split("\n- ");
+    int[] calls = {11, 10, 15, 7};
+    check.is("examples", examples.length - 1, calls.length);
+    for (int i = 1; i < examples.length; i++) {
+      String text = examples[i].replaceAll("\\s+", " ");
+      check.is("calls of example " + i, run(text), calls[i - 1]);
+    }
+  }
+
+  private static int run(String text) {
+    CoatLine x = new CoatLine();
+    Matcher call = Pattern.compile("(\\w+)\\(([^)]*)\\) = ('.'|-?\\d+)").matcher(text);
+    int calls = 0;
+    while (call.find()) {
+      String answer = Told.answer(x, call.group(1), call.group(2));
+      check.yes(call.group() + " answered " + answer, answer.equals(call.group(3)));
+      calls++;
+    }
+    return calls;
   }
 
   private static void twoCoatsWoundToACell() {

@@ -5,7 +5,8 @@ import java.util.TreeSet;
 
 /**
  * The document once more, in the slowest and plainest way: time hour by hour, coverage and sisters
- * metre by metre, a module by looking at every choice. ModelTest holds the class against it.
+ * metre by metre, a module by looking at every choice. RandomRunsTest holds the class
+ * against it.
  */
 final class Model {
   private static final class Metre {
